@@ -24,6 +24,11 @@ public final class ForetoldTest {
         Check.due("of no WORTH", idle.plan(), 0);
         Check.due("none ahead of PEOPLE", idle.planOf(0), Check.NONE);
         Check.due("nothing to gain", idle.shortest(), 1);
+        CenturyTown dozing = Check.told("smith;work 0 1 1 5");
+        dozing.oversleep(0, 1);
+        dozing.sleep(0);
+        Check.due("plan() with all ASLEEP", dozing.plan(), 0);
+        Check.due("planOf(0) with all ASLEEP", dozing.planOf(0), Check.NONE);
         CenturyTown all = Check.told("smith;work 0 33 1 1;work 0 33 1 1;work 0 34 1 1");
         Check.due("100 MINUTES in 99", all.shortest(), 66);
         Check.due("plan() in 60", all.plan(), 1);

@@ -24,6 +24,7 @@ public final class TextTest {
         Check.due("new back(0)", x.back(0), Check.NOT);
         for (int world = 0; world < 4; world++) {
             Check.due("new odds", x.odds(world, 9, 0), world == 0 ? 1 : 0);
+            Check.due("new odds", x.odds(world, 9, 1), 1);
         }
         Check.due("new undo()", x.undo(), Check.NOT);
         Check.due("new bears()", x.bears(), Check.NONE);
@@ -67,6 +68,15 @@ public final class TextTest {
         faultOf("Town", 0);
         faultOf("towns", 0);
         faultOf("tow", 0);
+        faultOf("townz", 0);
+        faultOf("atown", 0);
+        faultOf("rown", 0);
+        faultOf("stilt", 0);
+        faultOf("town`", 4);
+        faultOf("town{", 4);
+        faultOf("length 9/", 8);
+        faultOf("length 9:", 8);
+        faultOf("length 9z", 8);
         faultOf("7", 0);
         faultOf("\ttown", 0);
         faultOf("town" + (char) 233, 4);
@@ -163,7 +173,15 @@ public final class TextTest {
         Check.due("in place of B", x.odds(1, 1, 0), 0);
         Check.due("in place of B", x.odds(2, 1, 1), 2);
         Check.tell(x, "still");
-        Check.due("still", x.odds(0, 9, 0), 1);
+        Check.due("still", x.odds(0, 9, 1), 1);
+        Check.tell(x, "world 0 1 1;world 1 2 1;world 2 3 1;world 3 0 1;still");
+        for (int world = 0; world < 4; world++) {
+            Check.due("still", x.likely(world, 0, 1), 4);
+            x.sign(world, 9, 1);
+            Check.due("still", x.likely(world, 0, 1), 1);
+            Check.due("still", x.likely(world, 0, 0), 1);
+            x.forget();
+        }
         Check.due("still leaves PEOPLE", x.count(0), 3);
         Check.tell(x, "world 0 1 9;length 7;town;reeve");
         Check.due("town, then one", x.count(0), 1);
@@ -172,7 +190,7 @@ public final class TextTest {
         Check.due("town: likes", x.one(0, 1), 0);
         Check.due("town: WORKS", x.count(1), 0);
         Check.due("town: GOODS", x.count(2), 0);
-        Check.due("town: THE WORLD", x.odds(0, 9, 0), 1);
+        Check.due("town: THE WORLD", x.odds(0, 9, 1), 1);
     }
 
     private static void behindText() {
@@ -184,6 +202,7 @@ public final class TextTest {
         for (int i = 0; i < 5; i++) x.sleep(i);
         x.oversleep(1, 1);
         x.sleep(0);
+        x.does(0, 0);
         x.oversleep(1, 1);
         x.keep(0);
         x.wording(3);
