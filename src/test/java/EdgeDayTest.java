@@ -210,9 +210,16 @@ public final class EdgeDayTest {
 
     private static void whoOversleeps() {
         Check.bounds("oversleep(.., 1)", EdgeDayTest::chain, 0, 4, Check.UNKNOWN, (x, n) -> x.oversleep(n, 1));
+        Check.bounds("oversleep(.., 0)", Towns::busy, 0, 2, Check.UNKNOWN, (x, n) -> x.oversleep(n, 0));
+        Check.refused("oversleep(0, 1) of nobody", CenturyTown::new, x -> x.oversleep(0, 1), Check.UNKNOWN);
+    }
+
+    private static void oversleepsOrNot() {
         Check.bounds("oversleep(0, ..)", EdgeDayTest::chain, 0, 1, Check.OUTSIDE, (x, n) -> x.oversleep(0, n));
         Check.bounds("oversleep(2, ..)", Towns::busy, 0, 1, Check.OUTSIDE, (x, n) -> x.oversleep(2, n));
-        Check.refused("oversleep(0, 1) of nobody", CenturyTown::new, x -> x.oversleep(0, 1), Check.UNKNOWN);
+    }
+
+    private static void oversleepUnknownAheadOfOutside() {
         Check.refused("oversleep(5, 2)", EdgeDayTest::chain, x -> x.oversleep(5, 2), Check.UNKNOWN);
         Check.refused("oversleep(-1, -1)", EdgeDayTest::chain, x -> x.oversleep(-1, -1), Check.UNKNOWN);
     }
@@ -265,6 +272,16 @@ public final class EdgeDayTest {
         Check.due("one less", x.count(4), 998);
         Check.due("again", x.sleep(9999), 0);
         Check.due("CENTURY", x.count(4), 999);
+    }
+
+    private static void callsOfOneObject() {
+        CenturyTown x = Check.told("grow 0 9");
+        for (int call = 10; call < 511; call++) x.sleep(call);
+        Check.due("the 511th call", x.good(0, 0), 9 * 501);
+        Check.due("the 512th call", x.undo(), 7);
+        CenturyTown y = new CenturyTown();
+        for (int call = 1; call < 512; call++) y.sleep(0);
+        Check.due("the 512th call", y.count(4), 511);
     }
 
     private static void heldForOneMore() {
@@ -470,7 +487,13 @@ public final class EdgeDayTest {
     private static void whichIsKept() {
         Check.bounds("keep", CenturyTown::new, 0, 1, Check.UNKNOWN, CenturyTown::keep);
         Check.bounds("keep", Towns::busy, 0, 1, Check.UNKNOWN, CenturyTown::keep);
+    }
+
+    private static void whichIsGivenBack() {
         Check.bounds("back", Towns::crowded, 0, 1, Check.UNKNOWN, CenturyTown::back);
+    }
+
+    private static void backUnknownAheadOfNot() {
         Check.refused("back(2), nothing kept", CenturyTown::new, x -> x.back(2), Check.UNKNOWN);
         Check.refused("back(-1), nothing kept", CenturyTown::new, x -> x.back(-1), Check.UNKNOWN);
     }
@@ -567,33 +590,38 @@ public final class EdgeDayTest {
         Check.edge("11: if he has its SKILL; NOT: he can not", EdgeDayTest::withoutItsSkill);
         Check.edge("11: and as many MINUTES left; NOT: he can not", EdgeDayTest::asManyMinutes);
         Check.edge("11: one of PEOPLE who is not ASLEEP; NOT: he can not", EdgeDayTest::notWhileAsleep);
-        Check.edge("2: it HOLDS for as many CENTURIES from now on (also if it does yet)", EdgeDayTest::holdsAnew);
+        Check.edge("Part 2: it HOLDS for as many CENTURIES from now on (also if it does yet)", EdgeDayTest::holdsAnew);
         Check.edge("12: UNKNOWN (one and himself, too)", EdgeDayTest::whoMarries);
         Check.edge("12: UNKNOWN ahead of NOT", EdgeDayTest::marryUnknownAheadOfNot);
-        Check.edge("2: two who LIKE one another; NOT: they may not", EdgeDayTest::likeOneAnother);
-        Check.edge("2: and are not married; NOT: they may not", EdgeDayTest::marriedBefore);
-        Check.edge("2: may MARRY (MINUTES none)", EdgeDayTest::marryInNoTime);
+        Check.edge("Part 2: two who LIKE one another; NOT: they may not", EdgeDayTest::likeOneAnother);
+        Check.edge("Part 2: and are not married; NOT: they may not", EdgeDayTest::marriedBefore);
+        Check.edge("Part 2: may MARRY (MINUTES none)", EdgeDayTest::marryInNoTime);
         Check.edge("13: UNKNOWN", EdgeDayTest::whatIsSold);
         Check.edge("13: a GOOD is SOLD once; NOT: it was", EdgeDayTest::soldOnce);
         Check.edge("13: for its WORTH as it is by now", EdgeDayTest::worthByNow);
-        Check.edge("14: UNKNOWN; OUTSIDE", EdgeDayTest::whoOversleeps);
+        Check.edge("14: UNKNOWN", EdgeDayTest::whoOversleeps);
+        Check.edge("14: OVERSLEEPS (1), or does not (0); OUTSIDE", EdgeDayTest::oversleepsOrNot);
+        Check.edge("14: UNKNOWN ahead of OUTSIDE", EdgeDayTest::oversleepUnknownAheadOfOutside);
         Check.edge("14: whether he was to", EdgeDayTest::whetherHeWasTo);
-        Check.edge("2: who OVERSLEEPS is ASLEEP in the next day", EdgeDayTest::inTheNextDayAlone);
+        Check.edge("Part 2: who OVERSLEEPS is ASLEEP in the next day", EdgeDayTest::inTheNextDayAlone);
         Check.edge("15: a told number z (0 .. 9999); OUTSIDE", EdgeDayTest::toldNumber);
         Check.edge("15: FULL: it is CENTURY 999", EdgeDayTest::theLastCentury);
+        Check.edge("An object is used for at most 512 calls", EdgeDayTest::callsOfOneObject);
         Check.edge("15: WORKS that HELD for one more HOLD no more, by bits", EdgeDayTest::heldForOneMore);
-        Check.edge("2: it goes if that is below its CHANCE", EdgeDayTest::drawBelowChance);
+        Check.edge("Part 2: it goes if that is below its CHANCE", EdgeDayTest::drawBelowChance);
         Check.edge("Terms: a CHANCE of 0 .. 9 tenths", EdgeDayTest::leastAndGreatestChance);
-        Check.edge("2: modulo 65521, modulo 10", EdgeDayTest::drawWrapsAround);
-        Check.edge("2: 17 times the CENTURY that ends", EdgeDayTest::theCenturyThatEnds);
+        Check.edge("Part 2: modulo 65521, modulo 10", EdgeDayTest::drawWrapsAround);
+        Check.edge("Part 2: 17 times the CENTURY that ends", EdgeDayTest::theCenturyThatEnds);
         Check.edge("Terms: THE WORLD is 0 .. 3; else it stays", EdgeDayTest::fromTheLastWorldToTheFirst);
-        Check.edge("2: everybody has LENGTH again", EdgeDayTest::everybodyHasLengthAgain);
+        Check.edge("Part 2: everybody has LENGTH again", EdgeDayTest::everybodyHasLengthAgain);
         Check.edge("16: the last 8 can be: how many can be undone yet", EdgeDayTest::theLastEight);
         Check.edge("16: NOT: none", EdgeDayTest::noneToUndo);
         Check.edge("16: the latest does(), marry(), sell(), oversleep(), sleep()", EdgeDayTest::deedsThatCanBeUndone);
         Check.edge("16: no other call is undone", EdgeDayTest::otherCallsAreNoDeeds);
         Check.edge("16: a refused deed is none", EdgeDayTest::refusedDeedsAreNone);
-        Check.edge("17, 18: UNKNOWN: no such k; ahead of NOT", EdgeDayTest::whichIsKept);
+        Check.edge("17: UNKNOWN: no such k", EdgeDayTest::whichIsKept);
+        Check.edge("18: UNKNOWN", EdgeDayTest::whichIsGivenBack);
+        Check.edge("18: UNKNOWN ahead of NOT", EdgeDayTest::backUnknownAheadOfNot);
         Check.edge("18: NOT: nothing was kept since the last text", EdgeDayTest::nothingKept);
         Check.edge("18: a text that is refused is none", EdgeDayTest::aTextWithAFaultForgetsNothing);
         Check.edge("17: k 0, 1", EdgeDayTest::keptApart);

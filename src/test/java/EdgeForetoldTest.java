@@ -63,6 +63,12 @@ public final class EdgeForetoldTest {
         Check.due("nobody", x.planOf(0), Check.NONE);
         x.sleep(0);
         Check.due("all awake", x.planOf(0), 0);
+        CenturyTown least = Check.told("smith;work 0 1 1 5;length 1");
+        Check.due("awake, for one MINUTE", least.plan(), 5);
+        least.oversleep(0, 1);
+        least.sleep(0);
+        Check.due("ASLEEP, for one MINUTE", least.plan(), 0);
+        Check.due("ASLEEP, for one MINUTE", least.planOf(0), Check.NONE);
     }
 
     private static void doneAheadOfIt() {
@@ -229,10 +235,18 @@ public final class EdgeForetoldTest {
         return x;
     }
 
-    private static void oddsBounds() {
+    private static void oddsWorld() {
         Check.bounds("odds(.., 0, 0)", EdgeForetoldTest::worlds, 0, 3, Check.UNKNOWN, (x, n) -> x.odds(n, 0, 0));
+        Check.bounds("odds(.., 9, 1)", EdgeForetoldTest::worlds, 0, 3, Check.UNKNOWN, (x, n) -> x.odds(n, 9, 1));
+    }
+
+    private static void oddsBounds() {
         Check.bounds("odds(0, .., 0)", EdgeForetoldTest::worlds, 0, 9, Check.OUTSIDE, (x, n) -> x.odds(0, n, 0));
         Check.bounds("odds(3, 9, ..)", EdgeForetoldTest::worlds, 0, 1, Check.OUTSIDE, (x, n) -> x.odds(3, 9, n));
+        Check.refused("odds(0, 10, 2)", EdgeForetoldTest::worlds, x -> x.odds(0, 10, 2), Check.OUTSIDE);
+    }
+
+    private static void oddsUnknownAheadOfOutside() {
         Check.refused("odds(4, 10, 0)", EdgeForetoldTest::worlds, x -> x.odds(4, 10, 0), Check.UNKNOWN);
         Check.refused("odds(-1, 0, 2)", EdgeForetoldTest::worlds, x -> x.odds(-1, 0, 2), Check.UNKNOWN);
         Check.refused("odds(4, -1, -1)", EdgeForetoldTest::worlds, x -> x.odds(4, -1, -1), Check.UNKNOWN);
@@ -280,12 +294,21 @@ public final class EdgeForetoldTest {
 
     // ---- promises 24, 25
 
-    private static void signBounds() {
+    private static void signWorld() {
         Check.bounds("sign(.., 0, 0)", EdgeForetoldTest::worlds, 0, 3, Check.UNKNOWN, (x, n) -> x.sign(n, 0, 0));
+        Check.bounds("sign(.., 9, 1)", EdgeForetoldTest::worlds, 0, 3, Check.UNKNOWN, (x, n) -> x.sign(n, 9, 1));
+    }
+
+    private static void signBounds() {
         Check.bounds("sign(0, .., 0)", EdgeForetoldTest::worlds, 0, 9, Check.OUTSIDE, (x, n) -> x.sign(0, n, 0));
         Check.bounds("sign(3, 9, ..)", EdgeForetoldTest::worlds, 0, 1, Check.OUTSIDE, (x, n) -> x.sign(3, 9, n));
+        Check.refused("sign(0, 10, 2)", EdgeForetoldTest::worlds, x -> x.sign(0, 10, 2), Check.OUTSIDE);
+    }
+
+    private static void signUnknownAheadOfOutside() {
         Check.refused("sign(4, 10, 0)", EdgeForetoldTest::worlds, x -> x.sign(4, 10, 0), Check.UNKNOWN);
         Check.refused("sign(-1, 0, 2)", EdgeForetoldTest::worlds, x -> x.sign(-1, 0, 2), Check.UNKNOWN);
+        Check.refused("sign(4, -1, -1)", EdgeForetoldTest::worlds, x -> x.sign(4, -1, -1), Check.UNKNOWN);
     }
 
     private static void sixSigns() {
@@ -320,12 +343,21 @@ public final class EdgeForetoldTest {
 
     // ---- promise 26
 
-    private static void likelyBounds() {
+    private static void likelyWorld() {
         Check.bounds("likely(.., 0, 0)", EdgeForetoldTest::worlds, 0, 3, Check.UNKNOWN, (x, n) -> x.likely(n, 0, 0));
+        Check.bounds("likely(.., 9, 1)", EdgeForetoldTest::worlds, 0, 3, Check.UNKNOWN, (x, n) -> x.likely(n, 9, 1));
+    }
+
+    private static void likelyBounds() {
         Check.bounds("likely(0, .., 0)", EdgeForetoldTest::worlds, 0, 9, Check.OUTSIDE, (x, n) -> x.likely(0, n, 0));
         Check.bounds("likely(3, 9, ..)", EdgeForetoldTest::worlds, 0, 1, Check.OUTSIDE, (x, n) -> x.likely(3, 9, n));
+        Check.refused("likely(0, 10, 2)", EdgeForetoldTest::worlds, x -> x.likely(0, 10, 2), Check.OUTSIDE);
+    }
+
+    private static void likelyUnknownAheadOfOutside() {
         Check.refused("likely(4, 10, 0)", EdgeForetoldTest::worlds, x -> x.likely(4, 10, 0), Check.UNKNOWN);
         Check.refused("likely(-1, 0, 2)", EdgeForetoldTest::worlds, x -> x.likely(-1, 0, 2), Check.UNKNOWN);
+        Check.refused("likely(4, -1, -1)", EdgeForetoldTest::worlds, x -> x.likely(4, -1, -1), Check.UNKNOWN);
     }
 
     /** It was 0 a CENTURY ago, and is 1, but never goes so. */
@@ -444,37 +476,43 @@ public final class EdgeForetoldTest {
     public static void main(String[] args) {
         Check.edge("19, 20: nobody, nothing to do, no SKILL", EdgeForetoldTest::nobodyOrNothing);
         Check.edge("19, 20: five of PEOPLE, six WORKS", EdgeForetoldTest::asManyAsCanBe);
-        Check.edge("3: with MINUTES left", EdgeForetoldTest::minutesThatAreLeft);
-        Check.edge("3: PEOPLE (not ASLEEP)", EdgeForetoldTest::notAsleep);
-        Check.edge("3: WORKS that HOLD then (done by it, or ahead of it)", EdgeForetoldTest::doneAheadOfIt);
-        Check.edge("3: of several the first row (by WORKS, none ahead of PEOPLE)", EdgeForetoldTest::firstRow);
+        Check.edge("Part 3: with MINUTES left", EdgeForetoldTest::minutesThatAreLeft);
+        Check.edge("Part 3: PEOPLE (not ASLEEP)", EdgeForetoldTest::notAsleep);
+        Check.edge("Part 3: WORKS that HOLD then (done by it, or ahead of it)", EdgeForetoldTest::doneAheadOfIt);
+        Check.edge("Part 3: of several the first row (by WORKS, none ahead of PEOPLE)", EdgeForetoldTest::firstRow);
         Check.edge("20: UNKNOWN; NONE: nobody", EdgeForetoldTest::whoDoesWhichWork);
-        Check.edge("3: the least LENGTH (1 .. 99)", EdgeForetoldTest::leastAndGreatestLength);
-        Check.edge("3: as much as with 99, whatever LENGTH is", EdgeForetoldTest::withWhateverLength);
-        Check.edge("3: if all begin the day anew, none ASLEEP", EdgeForetoldTest::allBeginTheDayAnew);
+        Check.edge("21: the least LENGTH (1 .. 99)", EdgeForetoldTest::leastAndGreatestLength);
+        Check.edge("Part 3: as much as with 99, whatever LENGTH is", EdgeForetoldTest::withWhateverLength);
+        Check.edge("Part 3: if all begin the day anew, none ASLEEP", EdgeForetoldTest::allBeginTheDayAnew);
         Check.edge("22: n (1 .. 9); OUTSIDE", EdgeForetoldTest::howManyDays);
         Check.edge("22: (good NONE), a GOOD; UNKNOWN", EdgeForetoldTest::whichGoodOfSale);
         Check.edge("22: UNKNOWN ahead of OUTSIDE", EdgeForetoldTest::saleUnknownAheadOfOutside);
-        Check.edge("3: the day (0 .. n less 1)", EdgeForetoldTest::firstAndLastDay);
-        Check.edge("3: one GOOD a day at most", EdgeForetoldTest::oneGoodADay);
-        Check.edge("3: the first such row (by GOODS, not SOLD ahead of days)", EdgeForetoldTest::notSoldAheadOfDays);
-        Check.edge("3: GOODS not SOLD yet; NONE: it is not SOLD then", EdgeForetoldTest::goodsNotSoldYet);
-        Check.edge("23: UNKNOWN; OUTSIDE", EdgeForetoldTest::oddsBounds);
+        Check.edge("Part 3: the day (0 .. n less 1)", EdgeForetoldTest::firstAndLastDay);
+        Check.edge("Part 3: one GOOD a day at most", EdgeForetoldTest::oneGoodADay);
+        Check.edge("Part 3: the first such row (by GOODS, not SOLD ahead of days)", EdgeForetoldTest::notSoldAheadOfDays);
+        Check.edge("Part 3: GOODS not SOLD yet; NONE: it is not SOLD then", EdgeForetoldTest::goodsNotSoldYet);
+        Check.edge("23: UNKNOWN", EdgeForetoldTest::oddsWorld);
+        Check.edge("23: t (0 .. 9), part (0, 1); OUTSIDE", EdgeForetoldTest::oddsBounds);
+        Check.edge("23: UNKNOWN ahead of OUTSIDE", EdgeForetoldTest::oddsUnknownAheadOfOutside);
         Check.edge("23: t CENTURIES (0 .. 9)", EdgeForetoldTest::nowAndInNineCenturies);
         Check.edge("23: parts are told in lowest terms", EdgeForetoldTest::lowestTerms);
         Check.edge("23: from now", EdgeForetoldTest::oddsFromNow);
-        Check.edge("24: UNKNOWN; OUTSIDE", EdgeForetoldTest::signBounds);
+        Check.edge("24: UNKNOWN", EdgeForetoldTest::signWorld);
+        Check.edge("24: t (0 .. 9), was (0, 1); OUTSIDE", EdgeForetoldTest::signBounds);
+        Check.edge("24: UNKNOWN ahead of OUTSIDE", EdgeForetoldTest::signUnknownAheadOfOutside);
         Check.edge("24: SIGNS, 6 at most; FULL", EdgeForetoldTest::sixSigns);
         Check.edge("24: UNKNOWN, OUTSIDE ahead of FULL", EdgeForetoldTest::signRefusedInOrder);
         Check.edge("25: there are no SIGNS: how many there were", EdgeForetoldTest::forgotten);
-        Check.edge("26: UNKNOWN; OUTSIDE", EdgeForetoldTest::likelyBounds);
+        Check.edge("26: UNKNOWN", EdgeForetoldTest::likelyWorld);
+        Check.edge("26: t (0 .. 9), part (0, 1); OUTSIDE", EdgeForetoldTest::likelyBounds);
+        Check.edge("26: UNKNOWN ahead of OUTSIDE", EdgeForetoldTest::likelyUnknownAheadOfOutside);
         Check.edge("26: NOT: SIGNS can not be so", EdgeForetoldTest::signsCanNotBeSo);
         Check.edge("26: UNKNOWN, OUTSIDE ahead of NOT", EdgeForetoldTest::likelyRefusedInOrder);
-        Check.edge("3: if it was any of the four alike 9 CENTURIES ago", EdgeForetoldTest::anyOfTheFourAlike);
-        Check.edge("3: t CENTURIES ago (0 .. 9) THE WORLD was a told one, or was not", EdgeForetoldTest::signsOfTheFirstAndTheLast);
-        Check.edge("3: by all SIGNS", EdgeForetoldTest::byAllSigns);
-        Check.edge("3: by SIGNS, whatever THE WORLD is", EdgeForetoldTest::whateverTheWorldIs);
-        Check.edge("3: FORETOLD from now (nothing changes)", EdgeForetoldTest::foretoldChangesNothing);
+        Check.edge("Part 3: if it was any of the four alike 9 CENTURIES ago", EdgeForetoldTest::anyOfTheFourAlike);
+        Check.edge("Part 3: t CENTURIES ago (0 .. 9) THE WORLD was a told one, or was not", EdgeForetoldTest::signsOfTheFirstAndTheLast);
+        Check.edge("Part 3: by all SIGNS", EdgeForetoldTest::byAllSigns);
+        Check.edge("Part 3: by SIGNS, whatever THE WORLD is", EdgeForetoldTest::whateverTheWorldIs);
+        Check.edge("Part 3: FORETOLD from now (nothing changes)", EdgeForetoldTest::foretoldChangesNothing);
         Check.finish("EdgeForetoldTest");
     }
 }

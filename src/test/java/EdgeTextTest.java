@@ -255,6 +255,20 @@ public final class EdgeTextTest {
         }
     }
 
+    private static void eachLetterOfAWord() {
+        String[] plain = {"town", "smith", "mason", "scribe", "reeve", "likes 0 1", "work 0 1 1 0", "grow 0 0", "wither 0 0",
+            "length 1", "world 0 1 0", "still"};
+        for (String clause : plain) {
+            stands(clause, "smith;smith");
+            int letters = clause.indexOf(' ') < 0 ? clause.length() : clause.indexOf(' ');
+            for (int i = 0; i < letters; i++) {
+                faultOf(clause.substring(0, i) + "q" + clause.substring(i + 1), 0, "smith;smith");
+            }
+            faultOf(clause.substring(0, letters) + "q" + clause.substring(letters), 0, "smith;smith");
+            faultOf("q" + clause, 0, "smith;smith");
+        }
+    }
+
     private static void leastAndGreatestTold() {
         CenturyTown x = Check.told("work 0 1 1 0;work 2 60 9 50;grow 0 0;grow 99 9;wither 0 0;wither 99 9;length 1");
         int[][] works = {{0, 1, 1, 0}, {2, 60, 9, 50}};
@@ -612,6 +626,7 @@ public final class EdgeTextTest {
         Check.edge("Terms: world A B C", EdgeTextTest::worldNumbers);
         Check.edge("Terms: likes P Q", EdgeTextTest::likesNumbers);
         Check.edge("Terms: town, smith, mason, scribe, reeve, still", EdgeTextTest::wordsAlone);
+        Check.edge("Terms: each is one of: as written here", EdgeTextTest::eachLetterOfAWord);
         Check.edge("Terms: the least and the greatest numbers are told", EdgeTextTest::leastAndGreatestTold);
         Check.edge("Terms: P, Q unlike; B not A", EdgeTextTest::unlikeThemselves);
         Check.edge("Terms: PEOPLE such as there are behind the CLAUSES ahead", EdgeTextTest::peopleSuchAsThereAre);

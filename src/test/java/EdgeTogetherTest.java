@@ -260,6 +260,31 @@ public final class EdgeTogetherTest {
         Check.due("unlike by the two rules", voted(THREE, 12, 12, 120, 120, 210).mayor(1), 1);
     }
 
+    private static void askedAgain() {
+        CenturyTown x = voted(THREE, 12, 12, 120, 120, 210);
+        for (int i = 0; i < 3; i++) {
+            Check.due("mayor(0) again", x.mayor(0), 0);
+            Check.due("mayor(1) again", x.mayor(1), 1);
+            Check.due("swing() again", x.swing(), 16);
+            Check.due("points(1) again", x.points(1), 7);
+        }
+        Check.unchanged("mayor(0)", Towns::talkative, y -> y.mayor(0));
+        Check.unchanged("mayor(1)", Towns::talkative, y -> y.mayor(1));
+        Check.unchanged("points(2)", Towns::talkative, y -> y.points(2));
+    }
+
+    private static void deedsLeaveThem() {
+        CenturyTown x = Towns.talkative();
+        x.sleep(9);
+        x.undo();
+        x.undo();
+        int[] due = {6, 9, 6};
+        for (int what = 9; what < 12; what++) Check.due("count(" + what + ")", x.count(what), due[what - 9]);
+        Check.due("meant(45, 0)", x.meant(45, 0), 32);
+        Check.due("points(0)", x.points(0), 9);
+        Check.due("likely(3, 0, 0)", x.likely(3, 0, 0), 0);
+    }
+
     private static void pointsBounds() {
         Check.bounds("points", () -> voted(Check.FIVE, 1234), 0, 4, Check.UNKNOWN, CenturyTown::points);
         Check.bounds("points", Towns::talkative, 0, 2, Check.UNKNOWN, CenturyTown::points);
@@ -305,30 +330,32 @@ public final class EdgeTogetherTest {
         Check.edge("27: WORDINGS, 6 at most; FULL", EdgeTogetherTest::sixWordings);
         Check.edge("27: OUTSIDE, NOT ahead of FULL", EdgeTogetherTest::wordingRefusedInOrder);
         Check.edge("28: NONE: there are no WORDINGS; one WORDING alone: 6", EdgeTogetherTest::bearsNoneAndAlone);
-        Check.edge("3: it can not be taken for another one (nearest is what is meant)", EdgeTogetherTest::bearsByLettersApart);
+        Check.edge("Part 3: it can not be taken for another one (nearest is what is meant)", EdgeTogetherTest::bearsByLettersApart);
         Check.edge("29: OUTSIDE: bits, k (0 .. 6)", EdgeTogetherTest::meantBounds);
         Check.edge("29: no WORDINGS", EdgeTogetherTest::meantOfNone);
-        Check.edge("3: differs in k letters at most", EdgeTogetherTest::lettersAtMost);
-        Check.edge("3: MEANT by bits", EdgeTogetherTest::meantByBits);
+        Check.edge("Part 3: differs in k letters at most", EdgeTogetherTest::lettersAtMost);
+        Check.edge("Part 3: MEANT by bits", EdgeTogetherTest::meantByBits);
         Check.edge("30: what 0 .. 2; OUTSIDE", EdgeTogetherTest::pairsBounds);
         Check.edge("30: NONE: there is none", EdgeTogetherTest::noPairs);
-        Check.edge("3: each of two who LIKE one another", EdgeTogetherTest::likeOneAnotherAlone);
-        Check.edge("3: the most MARRIAGES more that can be", EdgeTogetherTest::allLikeAll);
-        Check.edge("3: and are not married", EdgeTogetherTest::marriedMarryNoMore);
-        Check.edge("3: its lesser one, then the other one least", EdgeTogetherTest::theOtherOneLeast);
-        Check.edge("3: ASLEEP or not", EdgeTogetherTest::whoSleepsMayMarry);
+        Check.edge("Part 3: each of two who LIKE one another", EdgeTogetherTest::likeOneAnotherAlone);
+        Check.edge("Part 3: the most MARRIAGES more that can be", EdgeTogetherTest::allLikeAll);
+        Check.edge("Part 3: and are not married", EdgeTogetherTest::marriedMarryNoMore);
+        Check.edge("Part 3: its lesser one, then the other one least", EdgeTogetherTest::theOtherOneLeast);
+        Check.edge("Part 3: ASLEEP or not", EdgeTogetherTest::whoSleepsMayMarry);
         Check.edge("31: OUTSIDE: it is no row of all PEOPLE", EdgeTogetherTest::rowOfAllPeople);
         Check.edge("31: NOT: there is nobody", EdgeTogetherTest::nobodyVotes);
         Check.edge("31: BALLOTS, 9 at most; FULL", EdgeTogetherTest::nineBallots);
         Check.edge("32: by rule 0; by rule 1; OUTSIDE", EdgeTogetherTest::mayorBounds);
         Check.edge("32: NONE: there are no BALLOTS", EdgeTogetherTest::noBallots);
-        Check.edge("3: of several the least", EdgeTogetherTest::ofSeveralTheLeast);
+        Check.edge("Part 3: of several the least", EdgeTogetherTest::ofSeveralTheLeast);
+        Check.edge("32 to 34: asked again, and in another order", EdgeTogetherTest::askedAgain);
+        Check.edge("16: WORDINGS, BALLOTS, SIGNS are no deeds", EdgeTogetherTest::deedsLeaveThem);
         Check.edge("33: UNKNOWN", EdgeTogetherTest::pointsBounds);
-        Check.edge("3: for each BALLOT how many stand behind him", EdgeTogetherTest::leastAndMostPoints);
+        Check.edge("Part 3: for each BALLOT how many stand behind him", EdgeTogetherTest::leastAndMostPoints);
         Check.edge("34: no BALLOT could", EdgeTogetherTest::swingOfNone);
-        Check.edge("3: would make one MAYOR, of several the least", EdgeTogetherTest::swingOfTheLeast);
+        Check.edge("Part 3: would make one MAYOR, of several the least", EdgeTogetherTest::swingOfTheLeast);
         Check.edge("34: by bits, of nine", EdgeTogetherTest::swingOfTheNinth);
-        Check.edge("3: who stands ahead of the MAYOR on it", EdgeTogetherTest::aheadOfTheMayor);
+        Check.edge("Part 3: who stands ahead of the MAYOR on it", EdgeTogetherTest::aheadOfTheMayor);
         Check.finish("EdgeTogetherTest");
     }
 }
