@@ -117,25 +117,16 @@ public final class DayTest {
                 long draw = (z * z + 31 * z + 17L * century + 5) % 65521 % 10;
                 if (draw < tenths[world]) world = (world + 1) % 4;
                 x.sleep((int) z);
-                Check.due("THE WORLD in " + x.count(4), x.count(5), world);
+                Check.due("THE WORLD behind " + century, x.count(5), world);
             }
         }
-    }
-
-    private static void lastCentury() {
-        CenturyTown x = new CenturyTown();
-        for (int century = 1; century <= 999; century++) x.sleep(0);
-        Check.due("CENTURY", x.count(4), 999);
-        Check.due("sleep(10000) at the last", x.sleep(10000), Check.OUTSIDE);
-        Check.due("sleep(0) at the last", x.sleep(0), Check.FULL);
-        Check.due("CENTURY", x.count(4), 999);
     }
 
     private static void undoing() {
         CenturyTown x = Check.told("reeve;reeve;length 9;likes 0 1;likes 1 0;work 0 1 2 3;grow 5 1;world 0 1 9");
         String[] was = new String[12];
         for (int deed = 0; deed < 11; deed++) {
-            was[deed] = withoutUndo(x);
+            was[deed] = Check.day(x);
             switch (deed) {
                 case 3: x.marry(0, 1); break;
                 case 4: x.sell(0); break;
@@ -149,21 +140,12 @@ public final class DayTest {
         Check.due("cannot be undone", x.count(12), 8);
         for (int deed = 10; deed >= 3; deed--) {
             Check.due("undo()", x.undo(), deed - 3);
-            Check.same("undo()", withoutUndo(x), was[deed]);
+            Check.same("undo()", Check.day(x), was[deed]);
         }
         Check.due("undo() no more", x.undo(), Check.NOT);
         x.does(0, 0);
         Check.due("undo() of a deed behind undoing", x.undo(), 0);
-        Check.same("undo()", withoutUndo(x), was[3]);
-    }
-
-    private static String withoutUndo(CenturyTown x) {
-        StringBuilder s = new StringBuilder();
-        for (int what = 0; what < 12; what++) s.append(x.count(what)).append(' ');
-        for (int one = 0; one < 5; one++) for (int what = 0; what < 6; what++) s.append(x.one(one, what)).append(' ');
-        for (int work = 0; work < 6; work++) s.append(x.work(work, 4)).append(' ');
-        for (int good = 0; good < 5; good++) s.append(x.good(good, 0)).append(' ').append(x.good(good, 1)).append(' ');
-        return s.toString();
+        Check.same("undo()", Check.day(x), was[3]);
     }
 
     private static void keeping() {
@@ -175,21 +157,21 @@ public final class DayTest {
         Check.due("back(0)", x.back(0), Check.NOT);
         x.does(0, 0);
         x.oversleep(1, 1);
-        String first = withoutUndo(x);
+        String first = Check.day(x);
         Check.due("keep(0)", x.keep(0), 0);
         Check.due("back(1)", x.back(1), Check.NOT);
         x.marry(0, 1);
         x.sell(0);
         x.sleep(2);
-        String second = withoutUndo(x);
+        String second = Check.day(x);
         Check.due("keep(1)", x.keep(1), 1);
         x.sleep(3);
         Check.due("can be undone", x.count(12), 6);
         Check.due("back(0)", x.back(0), 0);
-        Check.same("back(0)", withoutUndo(x), first);
+        Check.same("back(0)", Check.day(x), first);
         Check.due("undo() behind back", x.undo(), Check.NOT);
         Check.due("back(1)", x.back(1), 1);
-        Check.same("back(1)", withoutUndo(x), second);
+        Check.same("back(1)", Check.day(x), second);
         x.sleep(4);
         Check.due("keep(0) again", x.keep(0), 2);
         Check.due("keep leaves what can be undone", x.count(12), 1);
@@ -213,7 +195,6 @@ public final class DayTest {
         oversleeping();
         sleeping();
         worldGoesOn();
-        lastCentury();
         undoing();
         keeping();
         Check.finish("DayTest");

@@ -1,3 +1,4 @@
+import java.util.Arrays;
 import java.util.Random;
 
 /** Promises 19 to 26: plan, planOf, shortest, sale, odds, sign, forget, likely; by examples and by trying all. */
@@ -39,39 +40,59 @@ public final class ForetoldTest {
         Check.due("of several the first row", all.planOf(1), 0);
     }
 
-    private static int fitting(CenturyTown x, int[] row, int length) {
-        int[] left = new int[5];
-        int worth = 0;
-        for (int one = 0; one < x.count(0); one++) left[one] = length > 0 ? length : x.one(one, 2);
-        for (int work = 0; work < x.count(1); work++) {
-            int one = row[work] - 1;
-            if (one >= 0) {
-                boolean skilled = x.one(one, 0) == 3 || x.one(one, 0) == x.work(work, 0);
-                boolean asleep = length == 0 && x.one(one, 4) == 1;
-                left[one] -= x.work(work, 1);
-                if (!skilled || asleep || left[one] < 0) return -1;
-            }
-            if (one >= 0 || x.work(work, 4) > 0) worth += x.work(work, 3);
-        }
-        return worth;
-    }
+    /** What a PLAN goes by, asked once: trying all rows on the town itself would take more calls than it is good for. */
+    private static final class Asked {
+        final int[] kinds, left, asleep;
+        final int[][] works;
 
-    /** The best row of all, the first of several, and its WORTH behind it. */
-    private static int[] bestRow(CenturyTown x, int length) {
-        int works = x.count(1);
-        int[] row = new int[7];
-        int[] best = new int[7];
-        best[6] = -1;
-        while (true) {
-            int worth = fitting(x, row, length);
-            if (worth > best[6]) {
-                System.arraycopy(row, 0, best, 0, 6);
-                best[6] = worth;
+        Asked(CenturyTown x) {
+            kinds = new int[x.count(0)];
+            left = new int[kinds.length];
+            asleep = new int[kinds.length];
+            works = new int[x.count(1)][5];
+            for (int one = 0; one < kinds.length; one++) {
+                kinds[one] = x.one(one, 0);
+                left[one] = x.one(one, 2);
+                asleep[one] = x.one(one, 4);
             }
-            int place = works - 1;
-            while (place >= 0 && row[place] == x.count(0)) row[place--] = 0;
-            if (place < 0) return best;
-            row[place]++;
+            for (int work = 0; work < works.length; work++) {
+                for (int what = 0; what < 5; what++) works[work][what] = x.work(work, what);
+            }
+        }
+
+        /** The WORTH of a row, -1 if it can't be; with a LENGTH of 0 by what is left, else anew. */
+        int fitting(int[] row, int length) {
+            int[] time = left.clone();
+            int worth = 0;
+            if (length > 0) Arrays.fill(time, length);
+            for (int work = 0; work < works.length; work++) {
+                int one = row[work] - 1;
+                if (one >= 0) {
+                    boolean skilled = kinds[one] == 3 || kinds[one] == works[work][0];
+                    time[one] -= works[work][1];
+                    if (!skilled || length == 0 && asleep[one] == 1 || time[one] < 0) return -1;
+                }
+                if (one >= 0 || works[work][4] > 0) worth += works[work][3];
+            }
+            return worth;
+        }
+
+        /** The best row of all, the first of several, and its WORTH behind it. */
+        int[] bestRow(int length) {
+            int[] row = new int[7];
+            int[] best = new int[7];
+            best[6] = -1;
+            while (true) {
+                int worth = fitting(row, length);
+                if (worth > best[6]) {
+                    System.arraycopy(row, 0, best, 0, 6);
+                    best[6] = worth;
+                }
+                int place = works.length - 1;
+                while (place >= 0 && row[place] == kinds.length) row[place--] = 0;
+                if (place < 0) return best;
+                row[place]++;
+            }
         }
     }
 
@@ -91,13 +112,14 @@ public final class ForetoldTest {
                     + (1 + random.nextInt(3)) + " " + worth);
             }
             for (int day = 0; day < 2; day++) {
-                int[] best = bestRow(x, 0);
+                Asked asked = new Asked(x);
+                int[] best = asked.bestRow(0);
                 Check.due("plan() of " + text, x.plan(), best[6]);
                 for (int work = 0; work < works; work++) Check.due("planOf(" + work + ")", x.planOf(work), best[work] - 1);
                 if (works < 5) {
-                    int goal = bestRow(x, 99)[6];
+                    int goal = asked.bestRow(99)[6];
                     int least = 1;
-                    while (bestRow(x, least)[6] < goal) least++;
+                    while (asked.bestRow(least)[6] < goal) least++;
                     Check.due("shortest() of " + text, x.shortest(), least);
                 }
                 for (int i = 0; i < 4; i++) x.oversleep(random.nextInt(5), random.nextInt(2));
@@ -151,6 +173,8 @@ public final class ForetoldTest {
                 x.sleep(0);
             }
             x.back(0);
+            boolean[] sold = new boolean[5];
+            for (int good = 0; good < goods; good++) sold[good] = x.good(good, 1) == 1;
             int[] row = new int[5];
             int[] best = new int[5];
             int most = -1;
@@ -161,7 +185,7 @@ public final class ForetoldTest {
                 for (int good = 0; good < goods && total >= 0; good++) {
                     int day = row[good] - 1;
                     if (day < 0) continue;
-                    boolean may = (taken >> day & 1) == 0 && x.good(good, 1) == 0;
+                    boolean may = (taken >> day & 1) == 0 && !sold[good];
                     total = may ? total + price[good][day] : -1;
                     taken |= 1 << day;
                 }
