@@ -1070,7 +1070,7 @@ public final class CenturyTown {
             int goal = mostWithLength(LONGEST_DAY);
             int least = 1;
             int enough = LONGEST_DAY;
-            while (least < enough) {
+            for (int step = 0; step < LONGEST_DAY && least < enough; step++) {
                 int middle = (least + enough) / 2;
                 if (mostWithLength(middle) >= goal) {
                     enough = middle;

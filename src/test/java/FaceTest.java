@@ -24,6 +24,10 @@ public final class FaceTest {
     private static final String[] FORBIDDEN = {"throw", "throws", "try", "catch", "synchronized", "assert", "protected",
         "double", "float", "Object", "->", "::", "@", "System.nanoTime", "System.currentTimeMillis", "Random", "System.out",
         "package", "Exact(", "new Object"};
+    private static final Set<String> STATIC_TYPES =
+        Set.of("int", "long", "boolean", "char", "String", "int[]", "long[]", "char[]", "byte[]");
+    private static final Set<String> ARRAYS_AND_SYSTEM =
+        Set.of("Arrays.fill", "Arrays.copyOf", "Arrays.copyOfRange", "System.arraycopy");
 
     private static String signature(Method m) {
         StringBuilder s = new StringBuilder(m.getReturnType().getName() + " " + m.getName() + "(");
@@ -61,13 +65,26 @@ public final class FaceTest {
         Check.due("classes at most twelve", classes.length < 12 ? 1 : 0, 1);
         Set<String> names = new HashSet<>();
         for (Method m : CenturyTown.class.getDeclaredMethods()) if (Modifier.isPublic(m.getModifiers())) names.add(m.getName());
+        membersOf(CenturyTown.class, names);
         for (Class<?> c : classes) {
             Check.due("static: " + c, Modifier.isStatic(c.getModifiers()) ? 1 : 0, 1);
-            Check.due("fields of " + c, c.getDeclaredFields().length < 30 ? 1 : 0, 1);
-            for (Method m : c.getDeclaredMethods()) {
-                Check.due("a name of its own: " + m.getName(), names.contains(m.getName()) ? 1 : 0, 0);
-                Check.due("parameters of " + m.getName(), m.getParameterCount() <= 7 ? 1 : 0, 1);
-            }
+            membersOf(c, names);
+        }
+    }
+
+    private static void membersOf(Class<?> c, Set<String> publicNames) {
+        int fields = 0;
+        for (Field f : c.getDeclaredFields()) {
+            boolean shared = Modifier.isStatic(f.getModifiers());
+            fields += shared ? 0 : 1;
+            boolean constant = Modifier.isFinal(f.getModifiers()) && STATIC_TYPES.contains(f.getType().getSimpleName());
+            Check.due("a static field is a constant: " + f, shared && !constant ? 1 : 0, 0);
+        }
+        Check.due("fields of " + c, Math.max(fields, 20), 20);
+        for (Method m : c.getDeclaredMethods()) {
+            boolean own = Modifier.isPublic(m.getModifiers()) || !publicNames.contains(m.getName());
+            Check.due("a name of its own: " + m.getName(), own ? 1 : 0, 1);
+            Check.due("parameters of " + m.getName(), m.getParameterCount() <= 7 ? 1 : 0, 1);
         }
     }
 
@@ -87,6 +104,34 @@ public final class FaceTest {
         }
     }
 
+    private static void library(String source) {
+        Matcher used = Pattern.compile("\\b(?:Arrays|System)\\.\\w+").matcher(source);
+        while (used.find()) {
+            boolean listed = ARRAYS_AND_SYSTEM.contains(used.group());
+            Check.due("in the library that may be used: " + used.group(), listed ? 1 : 0, 1);
+        }
+    }
+
+    /** What a run makes is counted: rows are made once, in constructors, and no call makes one more. */
+    private static void madeInConstructors(String source) {
+        Pattern classLine = Pattern.compile(" *(?:public |private |static |final )*class (\\w+) \\{");
+        Pattern methodLine = Pattern.compile("(?: {4}| {8})(?:[\\w\\[\\]]+ )*(\\w+)\\(.*\\) \\{");
+        String inClass = "";
+        String inMethod = "";
+        int made = 0;
+        for (String line : source.split("\n")) {
+            Matcher begins = classLine.matcher(line);
+            Matcher method = methodLine.matcher(line);
+            if (begins.matches()) inClass = begins.group(1);
+            if (method.matches()) inMethod = method.group(1);
+            if (!line.matches("\\s*[/*].*") && line.matches(".*\\bnew\\b.*")) {
+                made++;
+                Check.same("made in a constructor: " + line.trim(), inMethod, inClass);
+            }
+        }
+        Check.due("rows are made", made > 0 ? 1 : 0, 1);
+    }
+
     private static void lengths(String source) {
         int start = -1;
         String[] lines = source.split("\n");
@@ -104,6 +149,8 @@ public final class FaceTest {
         face();
         inside();
         words(source);
+        library(source);
+        madeInConstructors(source);
         lengths(source);
         Check.finish("FaceTest");
     }
